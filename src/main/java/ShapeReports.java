@@ -442,7 +442,7 @@ public final class ShapeReports {
             for (int i = 0; i < more; i++) {
                 told = told | (program.at(at + 1 + i) << (8 * i));
             }
-            n = told & Integer.MAX_VALUE;
+            n = told & 0x7fffffff;
             z = signed(told, 8 * more);
             return placeBehind() <= program.size();
         }
