@@ -219,6 +219,53 @@ public final class PromisesTest {
         due("count(0)", x.count(0), 0);
         due("length(0, 0)", x.length(0, 0), 0);
         due("come", come(x, 1), NO);
+        readingAnew();
+    }
+
+    /** Nothing of a program that was read before is left in the next one. */
+    private static void readingAnew() {
+        ShapeReports x = fresh();
+        add(x, PAGE, 3);
+        add(x, LEAST, -4);
+        add(x, MOST, 5);
+        add(x, SIZE, 6);
+        add(x, ID, 7);
+        add(x, MANY, 2);
+        add(x, PUSH, 0);
+        add(x, IN, VALUES);
+        add(x, FIRST, 5);
+        add(x, USE, 9);
+        due("read()", x.read(), 2);
+        x.wipe();
+        add(x, SIZE, 1);
+        add(x, IN, VALUES);
+        due("read() without MANY", x.read(), FAULT);
+        x.wipe();
+        add(x, MANY, 1);
+        add(x, IN, VALUES);
+        due("read() without SIZE", x.read(), FAULT);
+        add(x, POP, 0);
+        due("fault(0)", x.fault(0), 11);
+        x.wipe();
+        add(x, POP, 0);
+        due("read() of a pop alone", x.read(), FAULT);
+        x.wipe();
+        add(x, SIZE, 1);
+        add(x, MANY, 1);
+        add(x, UPTO, 1);
+        add(x, IN, SLOTS);
+        due("read()", x.read(), 1);
+        dueField(x, 0, 0, 0, 0, 1, 0, 0, 1, 0, 0, 2, 0, NONE);
+        due("length(0, 7)", x.length(0, 7), 0);
+        x.wipe();
+        add(x, SIZE, 1);
+        add(x, MANY, 1);
+        add(x, MOST, 1);
+        add(x, UPTO, 31);
+        add(x, IN, SLOTS);
+        for (int i = 0; i < 40; i++) due("read()", x.read(), 1);
+        due("come", come(x, 1), 1);
+        dueEvent("of the 40th", x, 0, 1, 1);
     }
 
     private static void dueFault(ShapeReports x, int number, int place) {
@@ -254,6 +301,11 @@ public final class PromisesTest {
         dueFault(ofBytes(15), 1, 0);
         dueFault(ofBytes(4, 12), 2, 1);
         dueFault(ofBytes(252), 2, 0);
+        ShapeReports whole = fresh();
+        for (int i = 0; i < 95; i++) whole.say(4);
+        whole.say(252);
+        dueFault(whole, 2, 95);
+        due("fault(2) of 96 items", whole.fault(2), 96);
         for (int tag = 0; tag <= 15; tag++) {
             if (tag < 8 || tag > 12) dueFault(ofBytes(8, tag * 16), 2, 1);
             dueFault(ofBytes(tag * 16 + 8), 0, NONE);
@@ -407,6 +459,13 @@ public final class PromisesTest {
                 dueWritten(x, 2, word + (isSigned ? " -1" : " 2147483647"));
             }
         }
+        for (int n : new int[] {1, 9, 10, 11, 89, 90, 99, 100, 101, 127, 999, 1000, 9000, 9999, 10000, 32767}) {
+            ShapeReports y = fresh();
+            add(y, MOST, n);
+            add(y, MOST, -n);
+            dueWritten(y, 0, "most " + n);
+            dueWritten(y, 1, "most -" + n);
+        }
         ShapeReports x = ofBytes(4, 8, 7, 1, 2, 3);
         dueWritten(x, 1, "use");
         due("written of one that has not all its bytes", x.written(2, -1), NONE);
@@ -476,6 +535,40 @@ public final class PromisesTest {
         due("field(9, 12)", x.field(9, 12), UNKNOWN);
         due("field(highest, highest)", x.field(HIGHEST, HIGHEST), UNKNOWN);
         fieldsOfWideNumbers();
+        fieldsByKind();
+        fieldsBehindPop();
+    }
+
+    private static void fieldsByKind() {
+        int[] n = {0, 2, 4, 6, 8, 10, 12, 14, 256, 258, 260, 262};
+        ShapeReports x = sized(1, 1);
+        for (int k : n) add(x, OUT, k);
+        due("read()", x.read(), n.length);
+        for (int f = 0; f < n.length; f++) {
+            due("field(" + f + ", 6)", x.field(f, 6), n[f] / 2 % 2 == 0 ? 1 : 0);
+            due("field(" + f + ", 7)", x.field(f, 7), n[f] % 8 == 6 ? 1 : 0);
+        }
+    }
+
+    private static void fieldsBehindPop() {
+        ShapeReports x = fresh();
+        int[][] words = {PAGE, LEAST, MOST, SIZE, ID, MANY};
+        for (int round = 1; round <= 3; round++) {
+            for (int[] word : words) add(x, word, round);
+            if (round < 3) add(x, PUSH, 0);
+        }
+        add(x, IN, VALUES);
+        add(x, POP, 0);
+        add(x, IN, VALUES);
+        add(x, POP, 0);
+        add(x, IN, VALUES);
+        due("read()", x.read(), 6);
+        int[] first = {0, 3, 5};
+        for (int i = 0; i < 3; i++) {
+            int n = 3 - i;
+            dueField(x, first[i], 0, n, 0, n, n, n, 0, 0, n, 1, 0, NONE);
+            due("length(0, " + n + ")", x.length(0, n), n * n);
+        }
     }
 
     private static void fieldsOfWideNumbers() {
@@ -525,6 +618,12 @@ public final class PromisesTest {
         due("group(lowest, 0)", x.group(LOWEST, 0), NONE);
         due("group(5, 4)", x.group(5, 4), OUTSIDE);
         due("group(highest, lowest)", x.group(HIGHEST, LOWEST), OUTSIDE);
+        x = sized(1, 1);
+        for (int g = 0; g < 12; g++) add(x, GROUP, g);
+        add(x, IN, VALUES);
+        for (int g = 0; g < 12; g++) add(x, END, 0);
+        due("read()", x.read(), 1);
+        for (int g = 0; g < 12; g++) due("group(" + g + ", 3), twelve deep", x.group(g, 3), 1);
     }
 
     private static void lengths() {
@@ -595,6 +694,7 @@ public final class PromisesTest {
         due("one of two", come(x, 15, 0), NO);
         due("three of two", come(x, 15, 0, 0, 0), NO);
         due("no such ID", come(x, 14, 0, 0), NO);
+        due("the ID of no bits alone", come(x, 14), NO);
         due("ID 16", come(x, 16, 0, 0), NO);
         due("ID 255", come(x, 255, 0, 0), NO);
         due("without ID", come(x, 0, 0), NO);
@@ -607,6 +707,56 @@ public final class PromisesTest {
         due("read()", x.read(), 0);
         due("no field: ID 0, that has no bits", come(x, 15, 0, 0), NO);
         due("no field: ID 0, that has no bits", come(x, 0, 0), NO);
+    }
+
+    private static void lettersOfFewBits() {
+        for (int many : new int[] {1, 8, 9, 16, 17}) {
+            int bytes = many <= 8 ? 1 : many <= 16 ? 2 : 3;
+            ShapeReports x = sized(1, many);
+            add(x, MOST, 1);
+            add(x, IN, VALUES);
+            add(x, OUT, VALUES);
+            due("read()", x.read(), 2 * many);
+            int[] all = new int[bytes + 1];
+            java.util.Arrays.fill(all, 255);
+            due("a byte too many", come(x, all), NO);
+            due("a byte too few", come(x, java.util.Arrays.copyOf(all, bytes - 1)), NO);
+            due("as told", come(x, java.util.Arrays.copyOf(all, bytes)), many);
+            due("made(1, 0, -1)", x.made(1, 0, -1), bytes);
+        }
+    }
+
+    /** 99 EVENTS, and a letter of 48 SLOTS that lets 48 USES go and presses 48. */
+    private static void mostEvents() {
+        ShapeReports x = sized(5, 16);
+        add(x, MOST, 31);
+        for (int i = 0; i < 3; i++) {
+            add(x, UPTO, 31);
+            add(x, IN, SLOTS);
+        }
+        due("read()", x.read(), 48);
+        int[] low = slotBytes(0), high = slotBytes(16);
+        due("48 pressed", come(x, low), 48);
+        due("48 go, 48 come", come(x, high), 96);
+        for (int left = 143; left >= 99; left--) due("next()", x.next(), left);
+        due("48 go, 48 come", come(x, low), 96);
+        due("count(2)", x.count(2), 195);
+        x.image(0);
+        for (int left = 194; left >= 1; left--) x.next();
+        dueEvent("the last one", x, 32, 15, 1);
+        x.restore(0);
+        due("count(2)", x.count(2), 195);
+        due("event(1)", x.event(1), 13);
+    }
+
+    /** 48 numbers of five bits, three times from 'from' to 'from' and 15. */
+    private static int[] slotBytes(int from) {
+        int[] bytes = new int[30];
+        for (int bit = 0; bit < 240; bit++) {
+            int number = from + bit / 5 % 16;
+            bytes[bit / 8] |= (number >> bit % 5 & 1) << bit % 8;
+        }
+        return bytes;
     }
 
     private static void lettersWhenFull() {
@@ -728,6 +878,8 @@ public final class PromisesTest {
         due("nothing", come(x, 0, 0, 0, 0), 2);
         due("last(0)", x.last(0), 0);
         slotsAmongValues();
+        slotsOfSeveralItems();
+        slotsWithMostUses();
         slotsOfWideNumbers();
     }
 
@@ -753,6 +905,51 @@ public final class PromisesTest {
         due("last(3)", x.last(3), 2);
         due("last(5)", x.last(5), 1);
         due("last(7), without uses", x.last(7), 0);
+    }
+
+    private static void slotsOfSeveralItems() {
+        ShapeReports x = sized(4, 2);
+        add(x, MOST, 15);
+        add(x, USE, 50);
+        add(x, USE, 40);
+        add(x, IN, SLOTS);
+        add(x, USE, 30);
+        add(x, IN, SLOTS);
+        add(x, USE, 20);
+        add(x, USE, 60);
+        add(x, USE, 10);
+        add(x, IN, SLOTS);
+        due("read()", x.read(), 6);
+        due("come", come(x, 0x10, 0x10, 0x12), 5);
+        dueEvent("the first item's", x, 0, 40, 1);
+        dueEvent("the first item's", x, 0, 50, 1);
+        dueEvent("the second item's", x, 2, 30, 1);
+        dueEvent("the third item's", x, 4, 10, 1);
+        dueEvent("the third item's", x, 4, 60, 1);
+        due("come", come(x, 0x00, 0x11, 0x00), 5);
+        dueEvent("the first item's", x, 0, 40, 0);
+        dueEvent("the second item's", x, 2, 30, 0);
+        dueEvent("the third item's", x, 4, 10, 0);
+        dueEvent("the third item's", x, 4, 60, 0);
+        dueEvent("the third item's", x, 4, 20, 1);
+        due("last(1)", x.last(1), 1);
+        due("last(3)", x.last(3), 0);
+        due("last(5)", x.last(5), 1);
+    }
+
+    private static void slotsWithMostUses() {
+        ShapeReports x = sized(5, 32);
+        add(x, MOST, 31);
+        add(x, UPTO, 31);
+        add(x, IN, SLOTS);
+        due("read()", x.read(), 32);
+        int[] bytes = new int[20];
+        for (int bit = 0; bit < 160; bit++) bytes[bit / 8] |= (31 - bit / 5 >> bit % 5 & 1) << bit % 8;
+        due("all 32", come(x, bytes), 32);
+        due("last(31)", x.last(31), 32);
+        for (int use = 0; use < 32; use++) dueEvent("of 32", x, 0, use, 1);
+        due("31 go", come(x, new int[20]), 31);
+        dueEvent("the first to go", x, 0, 1, 0);
     }
 
     private static void slotsOfWideNumbers() {
@@ -919,6 +1116,7 @@ public final class PromisesTest {
             due("made(.., 2)", x.made(t[0], t[1], 2), NONE);
         }
         due("made(2, 7, 0)", x.made(2, 7, 0), NONE);
+        due("made(2, 15, -1)", x.made(2, 15, -1), NONE);
         due("made(2, 0, -1)", x.made(2, 0, -1), NONE);
         x = sized(8, 1);
         add(x, ID, 6);
@@ -1044,7 +1242,9 @@ public final class PromisesTest {
         lengths();
         putting();
         lettersRefused();
+        lettersOfFewBits();
         lettersWhenFull();
+        mostEvents();
         values();
         slots();
         events();
