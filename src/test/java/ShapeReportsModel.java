@@ -3,10 +3,11 @@ import java.util.List;
 import java.util.TreeSet;
 
 /**
- * A second, slow telling of the document, for the model test: lists of plain objects,
- * bits as a list of booleans, and images kept as the calls that led to them.
+ * A second, slow telling of the document: lists of plain objects, bits as a list of booleans,
+ * and images kept as the calls that led to them. The class is compared with it, and it is
+ * what is broken on purpose to see that the tests of the sentences notice.
  */
-final class ShapeReportsModel {
+public final class ShapeReportsModel implements Face {
     static final int UNKNOWN = -1, OUTSIDE = -2, STATE = -3, FULL = -4, NO = -5, NONE = -6, FAULT = -7;
 
     static final class Item {
@@ -52,10 +53,45 @@ final class ShapeReportsModel {
     List<List<int[]>> images = new ArrayList<>(List.of(List.of(), List.of()));
     int kept = 0;
 
-    /** Call number c with up to three arguments. */
-    int call(int c, int p, int q, int r) {
-        if (c == 17) return keep(p);
-        if (c == 18) return back(p);
+    @Override public int say(int b) { return call(0, b, 0, 0); }
+
+    @Override public int wipe() { return call(1, 0, 0, 0); }
+
+    @Override public int item(int sort, int tag, int n) { return call(2, sort, tag, n); }
+
+    @Override public int read() { return call(3, 0, 0, 0); }
+
+    @Override public int fault(int what) { return call(4, what, 0, 0); }
+
+    @Override public int written(int i, int k) { return call(5, i, k, 0); }
+
+    @Override public int field(int f, int what) { return call(6, f, what, 0); }
+
+    @Override public int group(int g, int what) { return call(7, g, what, 0); }
+
+    @Override public int length(int way, int id) { return call(8, way, id, 0); }
+
+    @Override public int put(int b) { return call(9, b, 0, 0); }
+
+    @Override public int come() { return call(10, 0, 0, 0); }
+
+    @Override public int event(int what) { return call(11, what, 0, 0); }
+
+    @Override public int next() { return call(12, 0, 0, 0); }
+
+    @Override public int last(int f) { return call(13, f, 0, 0); }
+
+    @Override public int want(int f, int n) { return call(14, f, n, 0); }
+
+    @Override public int made(int way, int id, int k) { return call(15, way, id, k); }
+
+    @Override public int count(int what) { return call(16, what, 0, 0); }
+
+    @Override public int image(int k) { return keep(k); }
+
+    @Override public int restore(int k) { return bringBack(k); }
+
+    private int call(int c, int p, int q, int r) {
         calls.add(new int[] {c, p, q, r});
         return (int) change(c, p, q, r);
     }
@@ -67,7 +103,7 @@ final class ShapeReportsModel {
         return 1;
     }
 
-    private int back(int k) {
+    private int bringBack(int k) {
         if (k != 0 && k != 1) return OUTSIDE;
         if ((kept >> k & 1) == 0) return STATE;
         program.clear();
@@ -83,35 +119,35 @@ final class ShapeReportsModel {
 
     private long change(int c, int p, int q, int r) {
         switch (c) {
-            case 0: return say(p);
+            case 0: return addByte(p);
             case 1: { int had = program.size(); program.clear(); return had; }
-            case 2: return item(p, q, r);
-            case 3: return read();
-            case 4: return fault(p);
-            case 5: return written(p, q);
-            case 6: return field(p, q);
-            case 7: return group(p, q);
+            case 2: return addItem(p, q, r);
+            case 3: return readShape();
+            case 4: return faultOf(p);
+            case 5: return signOf(p, q);
+            case 6: return ofField(p, q);
+            case 7: return ofGroup(p, q);
             case 8: return p < 0 || p > 2 || q < 0 || q > 15 ? OUTSIDE : shape.bits[p][q];
-            case 9: return put(p);
-            case 10: return come();
+            case 9: return addToLetter(p);
+            case 10: return takeLetter();
             case 11: return p < 0 || p > 2 ? OUTSIDE : events.isEmpty() ? NONE : events.get(0)[p];
             case 12: if (events.isEmpty()) return NONE; events.remove(0); return events.size();
-            case 13: return last(p);
-            case 14: return want(p, q);
-            case 15: return made(p, q, r);
-            case 16: return count(p);
+            case 13: return lastOf(p);
+            case 14: return setWanted(p, q);
+            case 15: return byteOf(p, q, r);
+            case 16: return countOf(p);
             default: throw new IllegalStateException("call " + c);
         }
     }
 
-    private int say(int b) {
+    private int addByte(int b) {
         if (b < 0 || b > 255) return OUTSIDE;
         if (program.size() == 96) return FULL;
         program.add(b);
         return program.size();
     }
 
-    private int item(int sort, int tag, int n) {
+    private int addItem(int sort, int tag, int n) {
         if (sort < 0 || sort > 2 || tag < 0 || tag > 15 || n < -32768 || n > 32767) return OUTSIDE;
         List<Integer> bytes = new ArrayList<>();
         int b = tag * 16 + sort * 4;
@@ -253,7 +289,7 @@ final class ShapeReportsModel {
         }
     }
 
-    private int read() {
+    private int readShape() {
         Shape s = make();
         told = s.fault;
         if (s.fault != 0) return FAULT;
@@ -263,14 +299,14 @@ final class ShapeReportsModel {
         return s.fields.size();
     }
 
-    private int fault(int what) {
+    private int faultOf(int what) {
         if (what == 0) return make().fault;
         if (what == 1) return make().place;
         if (what == 2) return (int) items().stream().filter(x -> x.whole).count();
         return OUTSIDE;
     }
 
-    private int written(int i, int k) {
+    private int signOf(int i, int k) {
         List<Item> all = items();
         if (i < 0 || i >= all.size() || !all.get(i).whole) return NONE;
         Item x = all.get(i);
@@ -284,7 +320,7 @@ final class ShapeReportsModel {
         return k < 0 || k >= text.length() ? NONE : text.charAt(k);
     }
 
-    private long field(int i, int what) {
+    private long ofField(int i, int what) {
         if (i < 0 || i >= shape.fields.size()) return UNKNOWN;
         if (what < 0 || what > 11) return OUTSIDE;
         Field f = shape.fields.get(i);
@@ -296,7 +332,7 @@ final class ShapeReportsModel {
         return g == null ? NONE : shape.groups.indexOf(g);
     }
 
-    private long group(int i, int what) {
+    private long ofGroup(int i, int what) {
         if (what < 0 || what > 3) return OUTSIDE;
         if (i < 0 || i >= shape.groups.size()) return NONE;
         Group g = shape.groups.get(i);
@@ -312,7 +348,7 @@ final class ShapeReportsModel {
         return found;
     }
 
-    private int put(int b) {
+    private int addToLetter(int b) {
         if (b < 0 || b > 255) return OUTSIDE;
         if (letter.size() == 33) return FULL;
         letter.add(b);
@@ -332,7 +368,7 @@ final class ShapeReportsModel {
         return below ? number - (1L << f.size) : number;
     }
 
-    private int come() {
+    private int takeLetter() {
         List<Integer> bytes = new ArrayList<>(letter);
         int before = events.size();
         int id = 0;
@@ -382,13 +418,13 @@ final class ShapeReportsModel {
         f.item.pressed = now;
     }
 
-    private long last(int i) {
+    private long lastOf(int i) {
         if (i < 0 || i >= shape.fields.size()) return UNKNOWN;
         Field f = shape.fields.get(i);
         return f.slot ? f.item.pressed.size() : f.last;
     }
 
-    private long want(int i, int n) {
+    private long setWanted(int i, int n) {
         if (i < 0 || i >= shape.fields.size()) return UNKNOWN;
         Field f = shape.fields.get(i);
         if (f.slot || f.way == 0) return STATE;
@@ -398,7 +434,7 @@ final class ShapeReportsModel {
         return was;
     }
 
-    private int made(int way, int id, int k) {
+    private int byteOf(int way, int id, int k) {
         if (way < 1 || way > 2 || id < 0 || id > 15) return OUTSIDE;
         boolean[] bits = new boolean[(shape.bits[way][id] + 7) / 8 * 8];
         if (bits.length == 0) return NONE;
@@ -418,7 +454,7 @@ final class ShapeReportsModel {
         return k < 0 || k >= bytes.size() ? NONE : bytes.get(k);
     }
 
-    private int count(int what) {
+    private int countOf(int what) {
         if (what < 0 || what > 7) return OUTSIDE;
         return new int[] {shape.fields.size(), shape.groups.size(), events.size(), program.size(), letter.size(),
             came, told, kept}[what];

@@ -1,0 +1,8 @@
+/** Makes new objects, of the class or of a model. */
+interface Bench {
+    Face make();
+
+    default Trial fresh() {
+        return new Trial(make());
+    }
+}
