@@ -332,6 +332,10 @@ final class LetterSentences implements Codes {
         x.tells(0, 5, 0).tells(1, 5, 1);
         x.last(0).is(0);
         x.last(1).is(1);
+        x.comes(0, 0).is(1);
+        x.tells(0, 5, 1);
+        x.comes(0, 9).is(1);
+        x.tells(1, 5, 0);
     }
 
     @Told(in = P12, says = "each whose NUMBER is IN RANGE presses the USE at the place, from 0 on, that is the NUMBER less "
