@@ -7,10 +7,12 @@ import java.nio.file.Files;
 import java.nio.file.Path;
 import java.util.ArrayList;
 import java.util.List;
+import java.util.Map;
 import java.util.Set;
 import java.util.TreeSet;
 import java.util.regex.Matcher;
 import java.util.regex.Pattern;
+import java.util.stream.Stream;
 
 /** What of LANGUAGE.md can be seen from the source's text and from the compiled class. Run it from the project's root. */
 public final class LanguageRulesTest {
@@ -23,9 +25,8 @@ public final class LanguageRulesTest {
         {"throw", "throws", "try", "catch", "synchronized", "assert", "package", "\\w+Exact"};
     private static final Set<String> IMPORTS =
         Set.of("java.util.ArrayList", "java.util.Arrays", "java.util.Iterator", "java.util.List");
-    private static final Set<String> OF_NUMBERS = Set.of("max", "min", "abs", "floorDiv", "floorMod", "compare", "signum",
-        "bitCount", "numberOfLeadingZeros", "numberOfTrailingZeros", "highestOneBit", "lowestOneBit", "reverse",
-        "rotateLeft", "rotateRight", "sum", "MAX_VALUE", "MIN_VALUE");
+    private static final Map<String, Class<?>> OF_NUMBERS =
+        Map.of("Math", Math.class, "Integer", Integer.class, "Long", Long.class);
     private static final Set<String> LIBRARY = Set.of("System.arraycopy", "Arrays.copyOf", "Arrays.copyOfRange",
         "Arrays.fill", "List.of");
     // The rules say "some" twelve classes, twenty fields, sixty lines.
@@ -116,10 +117,27 @@ public final class LanguageRulesTest {
         while (imports.find()) check(IMPORTS.contains(imports.group(1)), 4, imports.group());
         Matcher m = Pattern.compile("\\b(Math|Integer|Long|System|Arrays|List|String|Character)\\.(\\w+)").matcher(text);
         while (m.find()) {
-            boolean ofNumbers = Set.of("Math", "Integer", "Long").contains(m.group(1)) && OF_NUMBERS.contains(m.group(2));
+            boolean ofNumbers = isOverNumbers(OF_NUMBERS.get(m.group(1)), m.group(2));
             boolean imported = m.start() > 0 && text.charAt(m.start() - 1) == '.';
             check(ofNumbers || imported || LIBRARY.contains(m.group()), 4, m.group());
         }
+    }
+
+    /** Whether it is a constant number of the class, or a static function over int and long; the *Exact are forbidden words. */
+    private static boolean isOverNumbers(Class<?> c, String name) {
+        if (c == null) return false;
+        for (Field f : c.getFields()) {
+            if (f.getName().equals(name) && isNumber(f.getType())) return true;
+        }
+        for (Method m : c.getMethods()) {
+            boolean isTold = m.getName().equals(name) && Modifier.isStatic(m.getModifiers()) && m.getParameterCount() > 0;
+            if (isTold && Stream.of(m.getParameterTypes()).allMatch(LanguageRulesTest::isNumber)) return true;
+        }
+        return false;
+    }
+
+    private static boolean isNumber(Class<?> type) {
+        return type == int.class || type == long.class;
     }
 
     private static void methodLengths() throws IOException {
